@@ -19,6 +19,7 @@ final class PromisesTest {
         setPart();
         dance();
         danceFindsTheFirstOfTheBestWays();
+        danceMovesAllOthersOn();
         danceOn();
         endNight();
         guest();
@@ -263,6 +264,8 @@ final class PromisesTest {
         DanceHall x = new DanceHall();
         check.same("before", 1, x.setPart(1, 9));
         check.same("before", 9, x.setPart(1, 2));
+        check.same("before", 2, x.setPart(1, 1));
+        check.same("before", 1, x.setPart(1, 2));
         check.same("before", 1, x.setPart(0, 4));
         check.same("parts", 6, x.value(11));
         fails(x, INDEX, "fiddler 2", () -> x.setPart(2, 0));
@@ -325,6 +328,39 @@ final class PromisesTest {
         nexts(z, 0, 1);
         z.setLamps(1, 1);
         nexts(z, DanceHall.NONE, DanceHall.NONE);
+    }
+
+    /** Leader 7 may dance with follower 0 alone, leader l with l and l + 1: all must move on for the eighth couple. */
+    private static void danceMovesAllOthersOn() {
+        check.title("promise 9, a long chain");
+        DanceHall x = hallOf(8, 8, 99);
+        x.setLamps(6, 999);
+        for (int k = 1; k < 7; k++) {
+            danceOfSome(x, k, 7, 0, 7 - k);
+        }
+        for (int k = 2; k < 8; k++) {
+            danceOfSome(x, 0, 7 - k, k, 7);
+        }
+        danceOfSome(x, 7, 7, 7, 7);
+        allHere(x, 0, 7, 0, 7);
+        check.same("couplesWith(6)", 8, x.couplesWith(6));
+        nexts(x, 1, 2, 3, 4, 5, 6, 7, 0);
+        check.same("dance()", 8, x.dance());
+        partners(x, 13, 1, 2, 3, 4, 5, 6, 7, 0);
+    }
+
+    private static void danceOfSome(DanceHall x, int firstLeader, int lastLeader, int firstFollower, int lastFollower) {
+        allHere(x, firstLeader, lastLeader, firstFollower, lastFollower);
+        check.same("couples in order", lastLeader - firstLeader + 1, x.dance());
+        check.same("the first one", firstFollower, x.partner(x.value(7) - 1, firstLeader));
+        check.same("the last one", lastFollower, x.partner(x.value(7) - 1, lastLeader));
+    }
+
+    private static void allHere(DanceHall x, int firstLeader, int lastLeader, int firstFollower, int lastFollower) {
+        for (int guest = 0; guest < 8; guest++) {
+            x.setHere(true, guest, firstLeader <= guest && guest <= lastLeader);
+            x.setHere(false, guest, firstFollower <= guest && guest <= lastFollower);
+        }
     }
 
     private static void danceOn() {
@@ -625,6 +661,9 @@ final class PromisesTest {
         check.same("who has no token does not count", 4, x.bestSize());
         x.setLamps(1, 0);
         check.same("lamps do not matter", 4, x.bestSize());
+        DanceHall z = read(new DanceHall(), "l1,1-;f1,1-;f1,1-;");
+        z.parse();
+        check.same("the smallest size", 1, z.bestSize());
         DanceHall y = read(new DanceHall(), "l1,9-;l1,9-;l1,9-;l1,9-;l1,9-;f1,9-;f1,9-;f1,9-;f1,9-;f1,9-;");
         y.parse();
         y.setShoes(9, 9);
@@ -704,8 +743,11 @@ final class PromisesTest {
         fails(x, INDEX, "its dances are 0", () -> x.partner(0, 0));
         check.same("shoes(4, false)", 2, x.shoes(4, false));
         check.same("got", 3, x.fiddler(1, 1));
+        check.same("the same text again", 5, x.parse());
+        facts(x, false, 2, 7, 4, 0, 1, 1, 4, 0, 0);
         check.same("the text stays", 30, x.clearText());
-        check.same("undo()", 3, x.undo());
+        x.undo();
+        check.same("undo()", 2, x.undo());
         check.same("tokens again", 7, x.guest(true, 1, 0));
         check.same("gone again", 0, x.guest(true, 0, 3));
         check.same("danced again", 0, x.danced(0, 0));
@@ -717,12 +759,13 @@ final class PromisesTest {
         check.title("promise 25, errors");
         String good = "l12,9-;";
         String[] wrong = {"x", "L", " ", "l", "l,", "l1", "l1;", "l12", "l123", "l1,", "l1,0", "l1,a", "l1,9", "l1,99",
-            "l1,9-", "l1,9--", "l1,9-9", "l1,9,", ";", "l1,1;;", "l1,1; ", "l-1,1;", "l1, 1;"};
-        int[] position = {0, 0, 0, 1, 1, 2, 2, 3, 3, 3, 3, 3, 4, 4, 5, 5, 5, 4, 0, 5, 5, 1, 3};
+            "l1,9-", "l1,9--", "l1,9-9", "l1,9,", ";", "l1,1;;", "l1,1; ", "l-1,1;", "l1, 1;", "l:", "l1:", "l1,:", "l/", "l1/", "l1,/"};
+        int[] position = {0, 0, 0, 1, 1, 2, 2, 3, 3, 3, 3, 3, 4, 4, 5, 5, 5, 4, 0, 5, 5, 1, 3, 1, 2, 3, 1, 2, 3};
         for (int i = 0; i < wrong.length; i++) {
             check.same("text " + wrong[i], -10 - position[i], parsed(wrong[i]));
             check.same("text " + good + wrong[i], -17 - position[i], parsed(good + wrong[i]));
         }
+        check.same("zeros", 3, parsed("l00,1;f10,1;f0,1;"));
         String leaders = "l1,1;l1,1;l1,1;l1,1;l1,1;l1,1;l1,1;l1,1;";
         String followers = leaders.replace('l', 'f');
         check.same("eight of each", 16, parsed(leaders + followers));
@@ -779,7 +822,7 @@ final class PromisesTest {
 
     private static void undoOfEachCall() {
         Act[] undoable = {x -> x.addGuest(false, 1, 2, false), x -> x.giveTokens(true, 0, 4),
-            x -> x.setHere(false, 1, false), x -> x.setShoes(5, 9), x -> x.setLamps(6, 7), x -> x.setFiddlers(4),
+            x -> x.setHere(false, 1, false), x -> x.setShoes(1, 9), x -> x.setShoes(9, 9), x -> x.setLamps(6, 7), x -> x.setFiddlers(4),
             x -> x.setPart(1, 8), DanceHall::dance, DanceHall::danceOn, DanceHall::endNight, DanceHall::parse};
         Act[] quiet = {x -> x.guest(true, 0, 4), x -> x.value(5), x -> x.shoes(3, true), x -> x.fiddler(0, 2),
             x -> x.danced(0, 0), x -> x.partner(0, 0), x -> x.next(0), x -> x.couplesWith(2), DanceHall::dancesLeft,
