@@ -460,7 +460,8 @@ final class PromisesTest {
         int[] followersGet = {0, 9, 0};
         for (int follower = 0; follower < 3; follower++) {
             check.same("lent to follower " + follower, followersGet[follower], x.guest(false, follower, 5));
-            check.same("follower can dance " + follower, oneIf(followersGet[follower] > 0), x.guest(false, follower, 4));
+            int can = followersGet[follower] > 0 ? 1 : 0;
+            check.same("follower can dance " + follower, can, x.guest(false, follower, 4));
         }
         x.setHere(true, 1, false);
         check.same("a leader's pair is free when it goes", 4, x.guest(true, 3, 5));
@@ -469,10 +470,6 @@ final class PromisesTest {
         check.same("the pairs come back", 4, x.guest(true, 3, 5));
         x.setShoes(4, 9);
         check.same("its own size again", 4, x.guest(false, 0, 5));
-    }
-
-    private static int oneIf(boolean fact) {
-        return fact ? 1 : 0;
     }
 
     private static void value() {
@@ -759,7 +756,8 @@ final class PromisesTest {
         check.title("promise 25, errors");
         String good = "l12,9-;";
         String[] wrong = {"x", "L", " ", "l", "l,", "l1", "l1;", "l12", "l123", "l1,", "l1,0", "l1,a", "l1,9", "l1,99",
-            "l1,9-", "l1,9--", "l1,9-9", "l1,9,", ";", "l1,1;;", "l1,1; ", "l-1,1;", "l1, 1;", "l:", "l1:", "l1,:", "l/", "l1/", "l1,/"};
+            "l1,9-", "l1,9--", "l1,9-9", "l1,9,", ";", "l1,1;;", "l1,1; ", "l-1,1;", "l1, 1;",
+            "l:", "l1:", "l1,:", "l/", "l1/", "l1,/"};
         int[] position = {0, 0, 0, 1, 1, 2, 2, 3, 3, 3, 3, 3, 4, 4, 5, 5, 5, 4, 0, 5, 5, 1, 3, 1, 2, 3, 1, 2, 3};
         for (int i = 0; i < wrong.length; i++) {
             check.same("text " + wrong[i], -10 - position[i], parsed(wrong[i]));
@@ -773,7 +771,7 @@ final class PromisesTest {
         check.same("a ninth follower", -50, parsed(followers + "f1,1;"));
         check.same("a ninth of each", -90, parsed(followers + leaders + "f"));
         check.same("100 bytes that end too early", -110,
-                parsed("l11,1-;f11,1-;l11,1-;f11,1-;l11,1-;f11,1-;l11,1-;f11,1-;l11,1-;f11,1-;l11,1-;f11,1-;l1,1;f11,1-;l1,1"));
+                parsed("l11,1-;f11,1-;".repeat(6) + "l1,1;f11,1-;l1,1"));
         DanceHall x = hallOf(1, 1, 9);
         x.dance();
         read(x, "f1,1;l1,1;l1,1");
@@ -822,8 +820,8 @@ final class PromisesTest {
 
     private static void undoOfEachCall() {
         Act[] undoable = {x -> x.addGuest(false, 1, 2, false), x -> x.giveTokens(true, 0, 4),
-            x -> x.setHere(false, 1, false), x -> x.setShoes(1, 9), x -> x.setShoes(9, 9), x -> x.setLamps(6, 7), x -> x.setFiddlers(4),
-            x -> x.setPart(1, 8), DanceHall::dance, DanceHall::danceOn, DanceHall::endNight, DanceHall::parse};
+            x -> x.setHere(false, 1, false), x -> x.setShoes(1, 9), x -> x.setShoes(9, 9), x -> x.setLamps(6, 7),
+            x -> x.setFiddlers(4), x -> x.setPart(1, 8), DanceHall::dance, DanceHall::danceOn, DanceHall::endNight, DanceHall::parse};
         Act[] quiet = {x -> x.guest(true, 0, 4), x -> x.value(5), x -> x.shoes(3, true), x -> x.fiddler(0, 2),
             x -> x.danced(0, 0), x -> x.partner(0, 0), x -> x.next(0), x -> x.couplesWith(2), DanceHall::dancesLeft,
             DanceHall::bestSize, x -> (long) (8 * x.share()), DanceHall::digest};
