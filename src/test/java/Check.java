@@ -49,6 +49,10 @@ final class Check {
         }
     }
 
+    int count() {
+        return checks;
+    }
+
     boolean allRight() {
         return wrong == 0;
     }

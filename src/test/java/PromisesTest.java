@@ -1,13 +1,5 @@
 /** Promises 1 to 27 one by one: ordinary inputs, the edges that the document names, and wrong inputs. */
-final class PromisesTest {
-    private static final Class<IndexOutOfBoundsException> INDEX = IndexOutOfBoundsException.class;
-    private static final Class<IllegalArgumentException> ARGUMENT = IllegalArgumentException.class;
-    private static final Class<IllegalStateException> STATE = IllegalStateException.class;
-    private static final int FAR = Integer.MAX_VALUE;
-    private static final int DEEP = Integer.MIN_VALUE;
-
-    private static final Check check = new Check();
-
+final class PromisesTest extends HallCheck {
     public static void main(String[] args) {
         newObject();
         addGuest();
@@ -42,74 +34,6 @@ final class PromisesTest {
         undoOfEachCall();
         digest();
         check.end();
-    }
-
-    // ---- helpers
-
-    /** A hall with so many leaders and followers, who have shoes of size 5 and these tokens. */
-    private static DanceHall hallOf(int leaders, int followers, int tokens) {
-        DanceHall x = new DanceHall();
-        for (int i = 0; i < leaders; i++) {
-            x.addGuest(true, tokens, 5, true);
-        }
-        for (int i = 0; i < followers; i++) {
-            x.addGuest(false, tokens, 5, true);
-        }
-        return x;
-    }
-
-    private static DanceHall read(DanceHall x, String text) {
-        x.clearText();
-        for (int i = 0; i < text.length(); i++) {
-            x.append(text.charAt(i));
-        }
-        return x;
-    }
-
-    private static int parsed(String text) {
-        return read(new DanceHall(), text).parse();
-    }
-
-    private static void values(DanceHall x, int... due) {
-        for (int what = 0; what < due.length; what++) {
-            check.same("value(" + what + ")", due[what], x.value(what));
-        }
-    }
-
-    private static void facts(DanceHall x, boolean leads, int guest, int... due) {
-        for (int what = 0; what < due.length; what++) {
-            check.same("guest(" + leads + "," + guest + "," + what + ")", due[what], x.guest(leads, guest, what));
-        }
-    }
-
-    private static void nexts(DanceHall x, int... due) {
-        for (int leader = 0; leader < due.length; leader++) {
-            check.same("next(" + leader + ")", due[leader], x.next(leader));
-        }
-    }
-
-    private static void partners(DanceHall x, int dance, int... due) {
-        for (int leader = 0; leader < due.length; leader++) {
-            check.same("partner(" + dance + "," + leader + ")", due[leader], x.partner(dance, leader));
-        }
-    }
-
-    /** Four calls that change nothing, undone: the hall is as it was, but no state is saved. */
-    private static void dropSaved(DanceHall x) {
-        int pairs = x.shoes(9, false);
-        for (int i = 0; i < 4; i++) {
-            x.setShoes(9, pairs);
-        }
-        for (int i = 0; i < 4; i++) {
-            x.undo();
-        }
-    }
-
-    /** The call throws this kind and changes nothing. */
-    private static void fails(DanceHall x, Class<? extends RuntimeException> kind, String what, Check.Call call) {
-        long before = x.digest();
-        check.fails(kind, what, call);
-        check.same("digest() after " + what, before, x.digest());
     }
 
     // ---- hall
@@ -354,13 +278,6 @@ final class PromisesTest {
         check.same("couples in order", lastLeader - firstLeader + 1, x.dance());
         check.same("the first one", firstFollower, x.partner(x.value(7) - 1, firstLeader));
         check.same("the last one", lastFollower, x.partner(x.value(7) - 1, lastLeader));
-    }
-
-    private static void allHere(DanceHall x, int firstLeader, int lastLeader, int firstFollower, int lastFollower) {
-        for (int guest = 0; guest < 8; guest++) {
-            x.setHere(true, guest, firstLeader <= guest && guest <= lastLeader);
-            x.setHere(false, guest, firstFollower <= guest && guest <= lastFollower);
-        }
     }
 
     private static void danceOn() {
@@ -821,7 +738,8 @@ final class PromisesTest {
     private static void undoOfEachCall() {
         Act[] undoable = {x -> x.addGuest(false, 1, 2, false), x -> x.giveTokens(true, 0, 4),
             x -> x.setHere(false, 1, false), x -> x.setShoes(1, 9), x -> x.setShoes(9, 9), x -> x.setLamps(6, 7),
-            x -> x.setFiddlers(4), x -> x.setPart(1, 8), DanceHall::dance, DanceHall::danceOn, DanceHall::endNight, DanceHall::parse};
+            x -> x.setFiddlers(4), x -> x.setPart(1, 8), DanceHall::dance, DanceHall::danceOn,
+            DanceHall::endNight, DanceHall::parse};
         Act[] quiet = {x -> x.guest(true, 0, 4), x -> x.value(5), x -> x.shoes(3, true), x -> x.fiddler(0, 2),
             x -> x.danced(0, 0), x -> x.partner(0, 0), x -> x.next(0), x -> x.couplesWith(2), DanceHall::dancesLeft,
             DanceHall::bestSize, x -> (long) (8 * x.share()), DanceHall::digest};
@@ -843,18 +761,6 @@ final class PromisesTest {
             check.same("nothing changes", before, x.digest());
             check.same("no saved state more", 1, x.undo());
         }
-    }
-
-    /** A hall in its second night, with couples, a text, a bag, and two saved states. */
-    private static DanceHall busyHall() {
-        DanceHall x = hallOf(3, 2, 20);
-        x.dance();
-        x.endNight();
-        read(x, "l1,1;f2,2-;");
-        dropSaved(x);
-        x.addGuest(false, 8, 5, true);
-        x.dance();
-        return x;
     }
 
     private static void digest() {
