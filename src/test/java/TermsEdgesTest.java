@@ -421,7 +421,15 @@ final class TermsEdgesTest extends HallCheck {
                 compareWays(4, 2, danced);
                 compareWays(2, 4, danced);
             }
+            threeForTwo();
         });
+    }
+
+    /** Leader 0 may dance with all; leaders 1, 2 and 3 have only followers 0 and 1 left, or one of them. */
+    private static void threeForTwo() {
+        compareWays(4, 4, 0b1100_1100_1100_0000);
+        compareWays(4, 4, 0b1100_1101_1100_0000);
+        compareWays(4, 4, 0b1110_1101_1100_0000);
     }
 
     /** The couples of a hall where some have danced already (a bit for each two), found by looking at all ways. */
